@@ -144,6 +144,11 @@ public final class OrdersAndPatternsTest {
         // 360 needs three slits: 160 + 100 + 100, 140 + 120 + 100, 120 + 120 + 120
         Checks.due("fill", x.fill(0), 360);
         dueDraft(x, 160, 100, 100);
+        x.order(90, 10);
+        x.order(110, 10);
+        // the first slit is the same, the second one decides
+        Checks.due("fill with more", x.fill(0), 360);
+        dueDraft(x, 160, 110, 90);
         SlittingOffice y = new SlittingOffice();
         y.coil(1020, 1000, 100, 1);
         y.order(500, 10);
@@ -151,11 +156,11 @@ public final class OrdersAndPatternsTest {
         y.order(250, 10);
         y.order(200, 10);
         y.setRules(5, 0, 4);
-        // 1000 is 500 + 500; with 10 millimetres more: 500 + 300 + 200 is no better
+        // 1000 is 500 + 500, and 500 + 300 + 200, which has more slits
         Checks.due("fill with two", y.fill(0), 1000);
         dueDraft(y, 500, 500);
         y.order(510, 10);
-        Checks.due("fill with the second slit deciding", y.fill(0), 1010);
+        Checks.due("fill with a greater width together", y.fill(0), 1010);
         dueDraft(y, 510, 500);
     }
 

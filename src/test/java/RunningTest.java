@@ -6,6 +6,7 @@ public final class RunningTest {
         runArguments();
         runStates();
         movesBySetup();
+        fifteenSlits();
         Checks.finish();
     }
 
@@ -101,6 +102,33 @@ public final class RunningTest {
         Checks.due("moved by four", x.moved(), 8);
         Checks.dueThrow("pattern -1", Checks.INDEX, () -> x.moves(-1));
         Checks.dueThrow("pattern 4", Checks.INDEX, () -> x.moves(4));
+    }
+
+    private static void fifteenSlits() {
+        SlittingOffice x = new SlittingOffice();
+        x.setRules(0, 0, 16);
+        for (int i = 0; i < 20; i++) {
+            x.coil(600, 600, 100, 1);
+        }
+        for (int i = 0; i < 12; i++) {
+            x.order(21 + i, 10);
+        }
+        keep(x, 20, 20, 20, 20, 20, 20, 20, 20, 20, 20, 20, 20, 20, 20, 20);
+        keep(x, 40, 40, 40, 40, 40, 40, 40, 40, 40, 40, 40, 40, 40, 40, 40);
+        Checks.due("no order is for this width", x.run(0, 0), 0);
+        Checks.due("slits", x.slits(0), 15);
+        Checks.due("right one", x.slitWeight(0, 14), 20);
+        Checks.due("right one's order", x.slitOrder(0, 14), SlittingOffice.NONE);
+        Checks.due("7 positions are the same", x.moves(1), 8);
+        x.run(1, 1);
+        Checks.due("7 positions are the same", x.moves(0), 8);
+        for (int i = 2; i < 20; i++) {
+            x.run(i, 0);
+        }
+        Checks.due("moved", x.moved(), 16 + 8 + 8);
+        Checks.due("stock of 20", x.stock(20), 19 * 15 * 20);
+        Checks.due("stock of 40", x.stock(40), 15 * 40);
+        Checks.due("stock of 0", x.stock(0), 0);
     }
 
     private static void keep(SlittingOffice x, int... widths) {

@@ -5,6 +5,7 @@ public final class WaitingRunsTest {
         planArguments();
         planStates();
         bestOrder();
+        eachAsksForItself();
         ordersThatCostTheSame();
         bestOrderFromSetup();
         placesAreLookedAt();
@@ -86,6 +87,29 @@ public final class WaitingRunsTest {
         // 0, 2, 1 moves 2 + 1 + 0, too
         dueOrder("best order", x, 0, 2, 1);
         Checks.due("nothing is run by asking", x.moved(), 0);
+    }
+
+    private static void eachAsksForItself() {
+        Checks.due("fewestByTrying alone", threeRuns().fewestByTrying(), 4);
+        Checks.due("fewestMoves alone", threeRuns().fewestMoves(), 4);
+        Checks.due("nextAt(0) alone", threeRuns().nextAt(0), 0);
+        Checks.due("nextAt(1) alone", threeRuns().nextAt(1), 2);
+        Checks.due("nextAt(2) alone", threeRuns().nextAt(2), 1);
+        SlittingOffice x = threeRuns();
+        x.runAll();
+        Checks.due("runAll alone", x.moved(), 4);
+    }
+
+    /** Best from wide to narrow, 4 and no more; the other way is 2 and 1 and 1, but comes later. */
+    private static SlittingOffice threeRuns() {
+        SlittingOffice x = withCoils(3);
+        keep(x, 60, 60, 60);
+        keep(x, 60);
+        keep(x, 60, 60);
+        for (int i = 0; i < 3; i++) {
+            x.plan(i, i);
+        }
+        return x;
     }
 
     private static void ordersThatCostTheSame() {
