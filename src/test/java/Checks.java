@@ -9,14 +9,24 @@ final class Checks {
     }
 
     private static int wrong = 0;
+    private static String heading = "";
 
     private Checks() {
     }
 
+    /** What is printed ahead of the answers that are not due. */
+    static void under(String text) {
+        heading = text + ": ";
+    }
+
+    static void complain(String text) {
+        wrong++;
+        System.out.println(heading + text);
+    }
+
     static void due(String what, long got, long want) {
         if (got != want) {
-            wrong++;
-            System.out.println(what + " answered " + got + ", due is " + want);
+            complain(what + " answered " + got + ", due is " + want);
         }
     }
 
@@ -35,8 +45,7 @@ final class Checks {
             }
             got = "threw " + e.getClass().getName();
         }
-        wrong++;
-        System.out.println(what + " " + got + ", due is " + want.getName());
+        complain(what + " " + got + ", due is " + want.getName());
     }
 
     static void finish() {
