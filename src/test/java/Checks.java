@@ -48,6 +48,11 @@ final class Checks {
         complain(what + " " + got + ", due is " + want.getName());
     }
 
+    /** The machine's own exceptions are of classes below these. */
+    static boolean isOfDocument(RuntimeException e) {
+        return e.getClass() == INDEX || e.getClass() == ARGUMENT || e.getClass() == STATE;
+    }
+
     static void finish() {
         if (wrong != 0) {
             System.out.println(wrong + " answers are not as due");

@@ -75,6 +75,9 @@ public final class FaceTest {
             }
         }
         Checks.due("methods " + got + " where " + due, got.equals(due), true);
+        for (Class<?> inside : SlittingOffice.class.getDeclaredClasses()) {
+            others.addAll(List.of(inside.getDeclaredMethods()));
+        }
         for (Method method : others) {
             Checks.due(method + " has a public one's name", publicNames.contains(method.getName()), false);
         }

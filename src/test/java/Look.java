@@ -34,6 +34,7 @@ final class Look {
             seen.add(what + " answers " + call.answer());
             return true;
         } catch (RuntimeException e) {
+            Checks.due(what + " throws an exception of the document", Checks.isOfDocument(e), true);
             seen.add(what + " throws " + e.getClass().getName());
             return false;
         }
@@ -122,6 +123,7 @@ final class Look {
             int c = coil;
             ask("defect(" + c + ", 0, 1)", () -> x.defect(c, 0, 1));
             ask("lost(" + c + ", 0)", () -> x.lost(c, 0));
+            ask("lost(" + c + ", 1)", () -> x.lost(c, 1));
         }
         for (int coil = Math.max(0, coils - 3); coil < coils; coil++) {
             int c = coil;

@@ -490,6 +490,10 @@ final class OutcomeBoundaries {
         Checks.due("50, of all coils", x.stock(50), 50 + 19 * 150);
         Checks.due("49, of all coils", x.stock(49), 20 * 49);
         Checks.due("51, of all coils", x.stock(51), 20 * 51);
+        SlittingOffice y = withPlainCoils(1);
+        Make.keep(y, Make.times(15, 20));
+        y.run(0, 0);
+        Checks.due("20, of a coil with 15 slits", y.stock(20), 15 * 20);
     }
 
     private static void p29AnyNumber() {

@@ -412,6 +412,7 @@ final class PatternBoundaries {
         asOftenAsOneLikes();
         greatestWidthTogether();
         fewestSlits();
+        widthsOf12Orders();
     }
 
     private static void makesItTheDraft() {
@@ -506,6 +507,24 @@ final class PatternBoundaries {
         x.order(600, 1);
         Checks.due("once 600", x.fill(0), 600);
         Make.dueDraft(x, 600);
+    }
+
+    private static void widthsOf12Orders() {
+        SlittingOffice x = Make.withRules(0, 0, 8);
+        x.coil(100, 1000, 100, 1);
+        x.coil(1000, 1000, 100, 1);
+        x.coil(311, 1000, 100, 1);
+        for (int i = 1; i <= 12; i++) {
+            x.order(100 + i, 1);
+        }
+        Checks.due("all too wide", x.fill(0), 0);
+        Checks.due("all too wide, by trying", x.fullestByTrying(0), 0);
+        Checks.due("seven of the widest, for 8 knives", x.fill(1), 784);
+        Make.dueDraft(x, Make.times(7, 112));
+        Checks.due("the same by trying", x.fullestByTrying(1), 784);
+        Checks.due("the first and the last are chosen", x.fill(2), 311);
+        Make.dueDraft(x, 109, 101, 101);
+        Checks.due("the same width by trying", x.fullestByTrying(2), 311);
     }
 
     private static void p12GreatestFirstSlit() {

@@ -80,13 +80,9 @@ final class ThrowBoundaries {
             wrong.call.of(x);
             return false;
         } catch (RuntimeException e) {
-            Checks.due(wrong.what + " throws an exception of the document", isOfDocument(e), true);
+            Checks.due(wrong.what + " throws an exception of the document", Checks.isOfDocument(e), true);
             return true;
         }
-    }
-
-    private static boolean isOfDocument(RuntimeException e) {
-        return e.getClass() == INDEX || e.getClass() == ARGUMENT || e.getClass() == STATE;
     }
 
     /** All full: 20 coils, 12 orders, 10 patterns, 15 slits, 7 runs; coil 0 is slit, coil 1 has 8 defects and waits. */
